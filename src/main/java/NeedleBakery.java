@@ -779,8 +779,8 @@ public final class NeedleBakery {
 
         /** Every pairing pairs the first needle of its set, or leaves it over, so no other start is tried. */
         private int leastForSet(Needles needles, int set) {
-            int first = Integer.numberOfTrailingZeros(set);
-            int others = set & set - 1;
+            int first = lowestOf(set);
+            int others = set & ~(1 << first);
             boolean odd = Integer.bitCount(set) % 2 == 1;
             int least = odd ? leastOfSet[others] : Integer.MAX_VALUE;
             for (int partner = first + 1; partner < MOST_NEEDLES; partner++) {
@@ -789,6 +789,14 @@ public final class NeedleBakery {
                 }
             }
             return least;
+        }
+
+        private static int lowestOf(int set) {
+            int lowest = 0;
+            for (int needle = MOST_NEEDLES - 1; needle >= 0; needle--) {
+                lowest = holds(set, needle) ? needle : lowest;
+            }
+            return lowest;
         }
 
         private int withPair(Needles needles, int set, int one, int other) {

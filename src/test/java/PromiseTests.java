@@ -52,6 +52,8 @@ public final class PromiseTests {
         saveAndRestore();
         whatUndoAndRestoreLeave();
         refusalsChangeNothing();
+        fullBakery();
+        stateBehindUndoneNeedles();
         Check.end("PromiseTests");
     }
 
@@ -369,6 +371,11 @@ public final class PromiseTests {
             int asked = rank;
             Check.due("needleAtRank(" + rank + ")", due[rank], () -> x.needleAtRank(asked));
         }
+        NeedleBakery y = withNeedles(40, 41, 42);
+        y.setDeviation(2, 0, 1);
+        Check.due("equal errors, strengths one apart", 1, () -> y.needleAtRank(0));
+        Check.due("the weaker of them", 0, () -> y.needleAtRank(1));
+        Check.due("errors one apart", 2, () -> y.needleAtRank(2));
         Check.throwsDue("needleAtRank(5)", NO_ELEMENT, () -> x.needleAtRank(5));
         Check.throwsDue("needleAtRank(-1)", NO_ELEMENT, () -> x.needleAtRank(-1));
     }
@@ -870,5 +877,54 @@ public final class PromiseTests {
             Check.due("undo of a batch", undone, () -> x.undo());
         }
         Check.due("a failing program has pushed none out", 0, () -> x.batchCount());
+    }
+
+    private static void fullBakery() {
+        NeedleBakery x = withNeedles(10, 20, 30, 40, 50, 60, 70, 80);
+        for (int needle = 0; needle < 8; needle++) {
+            table(x, needle, needle, 0, 0, 0, 0, 0, 0, -needle);
+        }
+        for (int batch = 0; batch < 7; batch++) {
+            x.addBatch(10, 10 * batch + 10, 1);
+        }
+        Check.due("setTolerance of eight", 0, () -> x.setTolerance(7));
+        Check.due("goodCount of eight", 8, () -> x.goodCount());
+        Check.due("meanError of eight", 2.0 * 140.0 / 8.0, () -> x.meanError());
+        Check.due("needleAtRank(7) of eight", 7, () -> x.needleAtRank(7));
+        Check.throwsDue("needleAtRank(8) of eight", NO_ELEMENT, () -> x.needleAtRank(8));
+        Check.due("leastDifference of eight", 40, () -> x.leastDifference());
+        Check.due("leastDifferenceByOrder of eight", 40, () -> x.leastDifferenceByOrder());
+        Check.due("partnerOf(7) of eight", 6, () -> x.partnerOf(7));
+        Check.due("bestShift of the eighth", 0, () -> x.bestShift(7));
+        Check.due("deviationAt of the eighth", 6, () -> x.deviationAt(7, 359));
+        Check.throwsDue("courseFor of the eighth", NO_ELEMENT, () -> x.courseFor(7, 312));
+        Check.throwsDue("courseForNearby of the eighth", NO_ELEMENT, () -> x.courseForNearby(7, 312));
+        Check.due("missedCourses of the eighth", 14, () -> x.missedCourses(7));
+        Check.due("the label of the eighth", "7:80 7 0 0 0 0 0 0 -7", () -> labelOf(x, 7));
+        Check.throwsDue("strengthOf(8) of eight", INDEX, () -> x.strengthOf(8));
+        Check.due("batchAt(6) of seven", 6, () -> x.batchAt(6));
+        Check.throwsDue("batchAt(7) of seven", INDEX, () -> x.batchAt(7));
+        Check.due("leastLateness of seven in time", 0, () -> x.leastLateness());
+        Check.due("leastLatenessByOrders of seven in time", 0, () -> x.leastLatenessByOrders());
+        Check.due("bestFirst of seven", 0, () -> x.bestFirst());
+        Check.due("latenessByIds of seven", 0, () -> x.latenessByIds());
+        Check.due("bake of the seventh", 0, () -> x.bake(6));
+        Check.due("correct of the eighth", 0, () -> x.correct(7));
+        Check.due("discard of the eighth", 1, () -> x.discard(7));
+    }
+
+    private static void stateBehindUndoneNeedles() {
+        NeedleBakery x = withNeedles(10, 20, 30, 40, 50, 60, 70);
+        x.addNeedle(80);
+        x.setDeviation(7, 7, 5);
+        x.save();
+        x.undo();
+        x.undo();
+        x.addNeedle(99);
+        Check.due("the table of a needle in place of an undone one", " 0 0 0 0 0 0 0 0", () -> tableOf(x, 7));
+        x.setDeviation(7, 3, 6);
+        x.discard(7);
+        x.restore();
+        Check.due("the restored needle", "7:80 0 0 0 0 0 0 0 5", () -> labelOf(x, 7));
     }
 }
