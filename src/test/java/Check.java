@@ -11,17 +11,20 @@ final class Check {
     }
 
     static void due(String call, Object want, Call caller) {
-        Object got;
-        try {
-            got = caller.answer();
-        } catch (RuntimeException e) {
-            got = "throws." + e.getClass().getSimpleName();
-        }
-        same(call, want, got);
+        same(call, want, answerOf(caller));
     }
 
     static void throwsDue(String call, Class<? extends RuntimeException> want, Call caller) {
         due(call, "throws." + want.getSimpleName(), caller);
+    }
+
+    /** The answer of a call, or a text that names what it throws. */
+    static Object answerOf(Call caller) {
+        try {
+            return caller.answer();
+        } catch (RuntimeException e) {
+            return "throws." + e.getClass().getSimpleName();
+        }
     }
 
     static void same(String what, Object want, Object got) {

@@ -1,14 +1,5 @@
-import java.util.NoSuchElementException;
-
 /** For each promise of the document: ordinary inputs, edges and wrong inputs, with answers worked out by hand. */
-public final class PromiseTests {
-    private static final Class<IndexOutOfBoundsException> INDEX = IndexOutOfBoundsException.class;
-    private static final Class<IllegalArgumentException> ARGUMENT = IllegalArgumentException.class;
-    private static final Class<IllegalStateException> STATE = IllegalStateException.class;
-    private static final Class<UnsupportedOperationException> UNSUPPORTED = UnsupportedOperationException.class;
-    private static final Class<NoSuchElementException> NO_ELEMENT = NoSuchElementException.class;
-    private static final Class<ArithmeticException> ARITHMETIC = ArithmeticException.class;
-
+public final class PromiseTests extends Scenes {
     public static void main(String[] arguments) {
         newObject();
         addNeedle();
@@ -55,49 +46,6 @@ public final class PromiseTests {
         fullBakery();
         stateBehindUndoneNeedles();
         Check.end("PromiseTests");
-    }
-
-    /** Makes a bakery with needles of these strengths. */
-    private static NeedleBakery withNeedles(int... strengths) {
-        NeedleBakery x = new NeedleBakery();
-        for (int strength : strengths) {
-            x.addNeedle(strength);
-        }
-        return x;
-    }
-
-    private static void table(NeedleBakery x, int needle, int... degrees) {
-        for (int heading = 0; heading < degrees.length; heading++) {
-            x.setDeviation(needle, heading, degrees[heading]);
-        }
-    }
-
-    private static String tableOf(NeedleBakery x, int needle) {
-        StringBuilder text = new StringBuilder();
-        for (int heading = 0; heading < 8; heading++) {
-            text.append(' ').append(x.deviationAt(needle, 45 * heading));
-        }
-        return text.toString();
-    }
-
-    private static void typeAll(NeedleBakery x, String text) {
-        for (int i = 0; i < text.length(); i++) {
-            x.type(text.charAt(i));
-        }
-    }
-
-    private static int run(NeedleBakery x, String text) {
-        typeAll(x, text);
-        return x.execute();
-    }
-
-    private static String labelOf(NeedleBakery x, int needle) {
-        int length = x.writeLabel(needle);
-        StringBuilder text = new StringBuilder();
-        for (int i = 0; i < length; i++) {
-            text.append(x.labelAt(i));
-        }
-        return text.toString();
     }
 
     private static void newObject() {
@@ -769,22 +717,6 @@ public final class PromiseTests {
         Check.due("its deviations", " 0 0 0 0 0 0 0 0", () -> tableOf(x, 2));
         x.setDeviation(0, 0, 1);
         Check.due("a modification that changes no value counts too", 7, () -> x.undo());
-    }
-
-    /** All that undo and restore bring back, as one text. */
-    private static String picture(NeedleBakery x) {
-        StringBuilder text = new StringBuilder();
-        for (int needle = 0; needle < x.needleCount(); needle++) {
-            text.append(x.strengthOf(needle)).append(tableOf(x, needle)).append(x.isDiscarded(needle)).append('\n');
-        }
-        text.append(x.tolerance()).append(' ').append(x.clock()).append(' ').append(x.bakedCount());
-        text.append(' ').append(x.latenessTotal()).append(' ').append(x.clock() == 0 ? 0 : x.bakingShare());
-        for (int position = 0; position < x.batchCount(); position++) {
-            int batch = x.batchAt(position);
-            text.append(' ').append(batch).append(':').append(x.latenessNow(batch));
-        }
-        text.append(' ').append(x.leastLateness()).append(' ').append(x.latenessByIds());
-        return text.toString();
     }
 
     private static void saveAndRestore() {
