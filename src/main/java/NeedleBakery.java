@@ -20,6 +20,7 @@ public final class NeedleBakery {
     private static final int MOST_CHARACTERS = 60;
     private static final int MOST_UNDOS = 8;
     private static final int NONE_YET = -1;
+    private static final int BEYOND_ALL = 0x7fffffff;
 
     private static final Change[] CHANGES = Change.values();
 
@@ -782,7 +783,7 @@ public final class NeedleBakery {
             int first = lowestOf(set);
             int others = set & ~(1 << first);
             boolean odd = Integer.bitCount(set) % 2 == 1;
-            int least = odd ? leastOfSet[others] : Integer.MAX_VALUE;
+            int least = odd ? leastOfSet[others] : BEYOND_ALL;
             for (int partner = first + 1; partner < MOST_NEEDLES; partner++) {
                 if (holds(others, partner)) {
                     least = Math.min(least, withPair(needles, set, first, partner));
@@ -809,7 +810,7 @@ public final class NeedleBakery {
             if (size % 2 == 0) {
                 return differenceWithout(size, size);
             }
-            int least = Integer.MAX_VALUE;
+            int least = BEYOND_ALL;
             for (int left = 0; left < size; left++) {
                 least = Math.min(least, differenceWithout(size, left));
             }
@@ -953,7 +954,7 @@ public final class NeedleBakery {
             leastOfSet[0] = 0;
             for (int set = 1; set <= all; set++) {
                 int start = end - minutesOf(oven, set);
-                int least = Integer.MAX_VALUE;
+                int least = BEYOND_ALL;
                 for (int place = 0; place < oven.count; place++) {
                     if (holds(set, place)) {
                         least = Math.min(least, beginningWith(oven, set, place, start));
@@ -991,7 +992,7 @@ public final class NeedleBakery {
         }
 
         private int leastByTrying(Oven oven) {
-            return bestFrom(oven, (1 << oven.count) - 1, oven.clock, 0, Integer.MAX_VALUE, 0);
+            return bestFrom(oven, (1 << oven.count) - 1, oven.clock, 0, BEYOND_ALL, 0);
         }
 
         /** Returns the least lateness of the orders that go on from here, or best where none is below it. */

@@ -8,6 +8,7 @@ final class CourseBoundaries extends Scenes {
         termsOfCourses();
         termsOfInterpolation();
         termsOfShifts();
+        tablesApart();
         noSuchCourse();
         returnedCourses();
         lowestCourse();
@@ -100,6 +101,24 @@ final class CourseBoundaries extends Scenes {
         bestIs(best, 2, -13);
         bestIs(best, -19, 20, 20, 20, 20, 20, 20, 20, 16);
         bestIs(best, 19, -20, -20, -20, -20, -20, -20, -20, -16);
+    }
+
+    /** The table of one needle ends where that of the next one begins. */
+    private static void tablesApart() {
+        Sentence s = Sentence.ofTerms("A needle has a strength from 1 to 99 and a table with 8 deviations");
+        NeedleBakery x = withNeedles(40, 50, 60);
+        table(x, 0, 20, 20, 20, 20, 20, 20, 20, 20);
+        table(x, 2, -20, -20, -20, -20, -20, -20, -20, -20);
+        s.due("the error between two tables", 0, () -> x.errorOf(1));
+        s.due("the best shift between two tables", 0, () -> x.bestShift(1));
+        s.due("the best shift by sum between two tables", 0, () -> x.bestShiftBySum(1));
+        s.due("the deviation at 359 between two tables", 0, () -> x.deviationAt(1, 359));
+        s.due("no reject between two", false, () -> x.isReject(1));
+        s.due("a shift down between two tables", 8, () -> x.shift(1, -1));
+        s.due("a shift up between two tables", 8, () -> x.shift(1, 2));
+        s.due("a correction between two tables", -1, () -> x.correct(1));
+        s.due("the table before", " 20 20 20 20 20 20 20 20", () -> tableOf(x, 0));
+        s.due("the table behind", " -20 -20 -20 -20 -20 -20 -20 -20", () -> tableOf(x, 2));
     }
 
     private static void bestIs(Sentence s, int due, int... degrees) {
@@ -205,6 +224,10 @@ final class CourseBoundaries extends Scenes {
         s.due("one at 359", 1, () -> withTable(0, 0, 0, 0, 0, 0, 0, -1).missedCourses(0));
         s.due("40 on each of four rises", 160, () -> withTable(20, -20, 20, -20, 20, -20, 20, -20).missedCourses(0));
         s.due("around 0", 0, () -> withTable(20, 20, 20, 20, 20, 20, 20, 20).missedCourses(0));
+        NeedleBakery x = withNeedles(40, 50);
+        x.setDeviation(1, 1, 1);
+        s.due("of a needle that misses none", 0, () -> x.missedCourses(0));
+        s.due("after that, of one that misses one", 1, () -> x.missedCourses(1));
     }
 
     private static void bestShift() {

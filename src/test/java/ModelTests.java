@@ -167,6 +167,10 @@ public final class ModelTests {
     }
 
     private boolean call(String name, Object... arguments) {
+        // What an object answers after its last call is free, also in the midst of a program.
+        if (calls == CALLS) {
+            return true;
+        }
         calls++;
         Object due = answer(model, name, arguments);
         Object got = answer(bakery, name, arguments);

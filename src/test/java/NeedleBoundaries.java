@@ -309,6 +309,20 @@ final class NeedleBoundaries extends Scenes {
             x.discard(needle);
         }
         count.due("all discarded", 8, () -> x.needleCount());
+        Sentence strength = Sentence.of(9, "Returns the strength.");
+        strength.due("the least", 1, () -> withNeedles(99, 1).strengthOf(1));
+        strength.due("the greatest", 99, () -> withNeedles(99, 1).strengthOf(0));
+        strength.due("of a discarded needle", 80, () -> x.strengthOf(7));
+        Sentence discarded = Sentence.of(10, "Returns whether it is discarded.");
+        for (int needle = 0; needle < 8; needle++) {
+            int asked = needle;
+            discarded.due("one of eight discarded", true, () -> x.isDiscarded(asked));
+        }
+        x.undo();
+        discarded.due("the last after an undo", false, () -> x.isDiscarded(7));
+        discarded.due("the one before it", true, () -> x.isDiscarded(6));
+        Sentence tolerance = Sentence.of(12, "Returns the tolerance in degrees.");
+        tolerance.due("at first", 10, () -> new NeedleBakery().tolerance());
         Sentence reject = Sentence.of(11, "Returns whether it is a reject, discarded or not.");
         NeedleBakery y = withNeedles(40, 50);
         y.setDeviation(0, 7, 11);

@@ -169,13 +169,36 @@ final class OvenBoundaries extends Scenes {
             int due = left;
             still.due("with " + due + " left", due, () -> x.dropBatch(due));
         }
-        still.due("the clock after all drops", 0, () -> x.clock());
+        Sentence drops = Sentence.of(28, "Drops a batch that waits, without baking it.");
+        drops.due("the clock after all drops", 0, () -> x.clock());
+        drops.due("bakedCount after all drops", 0, () -> x.bakedCount());
+        keepTheirNumbers(drops, (z, batch) -> z.dropBatch(batch));
+        keepTheirNumbers(Sentence.of(29, "Bakes a batch that waits."), (z, batch) -> z.bake(batch));
         Sentence last = Sentence.of(29, "Returns its lateness.");
         NeedleBakery y = withBatches(7);
         int[] due = {0, 0, 30, 60, 90, 120, 150};
         for (int batch = 6; batch >= 0; batch--) {
             int asked = batch;
             last.due("batch " + asked, due[6 - asked], () -> y.bake(asked));
+        }
+    }
+
+    /** Whichever of seven is taken out, the others wait with the ids, minutes, dues and weights that they had. */
+    private static void keepTheirNumbers(Sentence s, Sentence.RangeCall takeOut) {
+        for (int out = 0; out < 7; out++) {
+            NeedleBakery x = new NeedleBakery();
+            for (int batch = 0; batch < 7; batch++) {
+                x.addBatch(10 + batch, 1 + 3 * batch, 1 + batch);
+            }
+            takeOut.on(x, out);
+            int start = x.clock();
+            for (int position = 0; position < 6; position++) {
+                int batch = position < out ? position : position + 1;
+                int place = position;
+                int late = (1 + batch) * (start + 10 + batch - 1 - 3 * batch);
+                s.due("batchAt(" + place + ") without " + out, batch, () -> x.batchAt(place));
+                s.due("latenessNow(" + batch + ") without " + out, Math.max(0, late), () -> x.latenessNow(batch));
+            }
         }
     }
 
@@ -285,6 +308,10 @@ final class OvenBoundaries extends Scenes {
         NeedleBakery z = withBatches(1);
         z.addBatch(10, 20, 1);
         lowest.due("both can begin", 0, () -> z.bestFirst());
+        NeedleBakery late = new NeedleBakery();
+        late.addBatch(10, 10, 1);
+        late.addBatch(10, 10, 9);
+        lowest.due("the first is late in the best order", 1, () -> late.bestFirst());
         Sentence none = Sentence.of(37, "Throws `NoSuchElementException` if no batch waits");
         none.refuses("of a new bakery", NO_ELEMENT, NeedleBakery::new, w -> w.bestFirst());
         none.refuses("after the last was baked", NO_ELEMENT, () -> {

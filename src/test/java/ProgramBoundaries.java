@@ -27,16 +27,17 @@ final class ProgramBoundaries extends Scenes {
                 + "and at last \" x\" if it is discarded, or \" ?\" if it is a reject and not discarded");
         NeedleBakery x = withNeedles(1, 99, 99, 99, 99, 99, 99, 99);
         s.due("the shortest", "0:1 0 0 0 0 0 0 0 0", () -> labelOf(x, 0));
-        s.due("the shortest's length", 19, () -> x.writeLabel(0));
         table(x, 7, -20, -20, -20, -20, -20, -20, -20, -20);
         s.due("the longest", "7:99 -20 -20 -20 -20 -20 -20 -20 -20 ?", () -> labelOf(x, 7));
-        s.due("the longest's length", 38, () -> x.writeLabel(7));
         x.discard(7);
         s.due("both a reject and discarded", "7:99 -20 -20 -20 -20 -20 -20 -20 -20 x", () -> labelOf(x, 7));
         x.discard(0);
         s.due("discarded, no reject", "0:1 0 0 0 0 0 0 0 0 x", () -> labelOf(x, 0));
         table(x, 1, 10, -10);
         s.due("at the tolerance", "1:99 10 -10 0 0 0 0 0 0", () -> labelOf(x, 1));
+        Sentence length = Sentence.of(42, "Returns the length of the label.");
+        length.due("of the shortest", 19, () -> withNeedles(1).writeLabel(0));
+        length.due("of the longest", 38, () -> x.writeLabel(7));
         Sentence example = Sentence.of(42, "as in \"2:40 0 5 -3 0 0 0 12 0 ?\".");
         NeedleBakery y = withNeedles(1, 2, 40);
         table(y, 2, 0, 5, -3, 0, 0, 0, 12, 0);
@@ -148,6 +149,7 @@ final class ProgramBoundaries extends Scenes {
         commandIs("\"drop \" number", "drop 1", 5);
         commandIs("\"bake \" number", "bake 0", 5);
         commandIs("\"rest \" number", "rest 6", 5);
+        breaks(Sentence.ofTerms("command = \"needle \" number"), "needle -1", 7);
         Sentence set = Sentence.ofTerms("\"set \" digit \" \" digit \" \" degrees");
         breaks(set, "set 00 0 0", 5);
         breaks(set, "set 0 00 0", 7);
@@ -166,6 +168,14 @@ final class ProgramBoundaries extends Scenes {
         breaks(batch, "batch 1/1 -", 10);
         breaks(batch, "batch /1 1", 6);
         breaks(batch, "batch 1/ 1", 8);
+        breaks(batch, "batch -1/1 1", 6);
+        breaks(batch, "batch 1/-1 1", 8);
+        breaks(Sentence.ofTerms("\"correct \" digit"), "correct 10", 9);
+        breaks(Sentence.ofTerms("\"discard \" digit"), "discard 10", 9);
+        breaks(Sentence.ofTerms("\"limit \" number"), "limit -1", 6);
+        breaks(Sentence.ofTerms("\"drop \" number"), "drop -1", 5);
+        breaks(Sentence.ofTerms("\"bake \" number"), "bake -1", 5);
+        breaks(Sentence.ofTerms("\"rest \" number"), "rest -1", 5);
     }
 
     /** The command runs, also as a first and as a last one; each beginning of it is too short, and other signs break it. */
@@ -216,7 +226,6 @@ final class ProgramBoundaries extends Scenes {
         breaks(degrees, "shift 0 1-", 9);
         fails(degrees, "set 0 0 -21", 0);
         fails(degrees, "shift 0 -999", 0);
-        breaks(degrees, "needle -1", 7);
     }
 
     private static void termsOfCalls() {

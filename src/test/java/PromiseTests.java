@@ -696,22 +696,33 @@ public final class PromiseTests extends Scenes {
         Check.due("the clock after it", 7, () -> x.clock());
     }
 
-    private static void undoEachModification() {
+    private static NeedleBakery withTwoOfEach() {
         NeedleBakery x = withNeedles(40, 50);
         table(x, 0, 1, 2, 3, 4, 5, 6, 7, 8);
         x.addBatch(10, 5, 2);
         x.addBatch(20, 5, 3);
-        String due = picture(x);
-        Runnable[] modifications = {() -> x.addNeedle(7), () -> x.setDeviation(0, 0, 9), () -> x.shift(0, 3),
-            () -> x.correct(0), () -> x.discard(1), () -> x.setTolerance(3), () -> x.addBatch(1, 2, 3),
-            () -> x.dropBatch(0), () -> x.bake(1), () -> x.rest(9),
-            () -> run(x, "needle 3;set 2 1 4;bake 0;limit 1;batch 1/1 1")};
+        return x;
+    }
+
+    private static void undoEachModification() {
+        String due = picture(withTwoOfEach());
+        Sentence.Call[] modifications = {y -> y.addNeedle(7), y -> y.setDeviation(0, 0, 9), y -> y.shift(0, 3),
+            y -> y.correct(0), y -> y.discard(1), y -> y.setTolerance(3), y -> y.addBatch(1, 2, 3),
+            y -> y.dropBatch(0), y -> y.bake(1), y -> y.rest(9),
+            y -> run(y, "needle 3;set 2 1 4;bake 0;limit 1;batch 1/1 1")};
         for (int i = 0; i < modifications.length; i++) {
-            modifications[i].run();
-            Check.same("modification " + i + " changes something", false, due.equals(picture(x)));
-            x.undo();
-            Check.same("undo of modification " + i, due, picture(x));
+            NeedleBakery y = withTwoOfEach();
+            modifications[i].on(y);
+            Check.same("modification " + i + " changes something", false, due.equals(picture(y)));
+            y.undo();
+            Check.same("undo of modification " + i, due, picture(y));
         }
+        NeedleBakery x = withTwoOfEach();
+        for (int i = 0; i < modifications.length; i++) {
+            modifications[i].on(x);
+            x.undo();
+        }
+        Check.same("undo of all modifications, one after the other", due, picture(x));
         Check.due("the id after undone batches", 2, () -> x.addBatch(1, 1, 1));
         Check.due("the number after undone needles", 2, () -> x.addNeedle(1));
         Check.due("its deviations", " 0 0 0 0 0 0 0 0", () -> tableOf(x, 2));
@@ -800,8 +811,8 @@ public final class PromiseTests extends Scenes {
                 threw = true;
             }
             Check.same("call " + i + " is refused", true, threw);
-            Check.same("the state after the refused call " + i, due, picture(x));
         }
+        Check.same("the state after the refused calls", due, picture(x));
         Check.due("none of them can be undone", 7, () -> x.undo());
         Check.due("undo of the discard", false, () -> x.isDiscarded(1));
         for (int left = 6; left >= 0; left--) {

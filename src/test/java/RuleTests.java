@@ -19,7 +19,7 @@ public final class RuleTests {
                 all(code, "import ([a-zA-Z.]+);"));
         String[] forbidden = {"->", "::", "\\bcatch\\b", "\\btry\\b", "\\bfinally\\b", "\\bassert\\b", "\\bsynchronized\\b",
             "\\bvar\\b", "\"\" *\\+", "\\+ *\"\"", "Exact\\b", "\\bstatic *\\{", "\\bRandom\\b", "\\bThread\\b",
-            "\\bSystem\\.(?!arraycopy)", "\\bnull\\b", "\\bobject\\.equals\\b", "\\.format\\b", "\\bLong\\.parse"};
+            "\\bSystem\\.(?!arraycopy)", "\\bnull\\b", "\\bobject\\.equals\\b", "\\.format\\b", "\\bInteger\\.(?!bitCount)"};
         for (String word : forbidden) {
             Check.same("no " + word, Set.of(), all(code, "(" + word + ")"));
         }

@@ -10,6 +10,7 @@ final class UndoBoundaries extends Scenes {
         lastEight();
         whatUndoLeaves();
         whatUndoBringsBack();
+        whatUndoBringsBackWhenFull();
         exceptionsChangeNothing();
         firstException();
         undo();
@@ -47,7 +48,8 @@ final class UndoBoundaries extends Scenes {
                 + "dropBatch, bake, rest and execute are modifications.");
         Sentence.Call[] modifications = {x -> x.addNeedle(1), x -> x.setDeviation(0, 0, 9), x -> x.shift(0, 1), x -> x.correct(0),
             x -> x.discard(0), x -> x.setTolerance(0), x -> x.addBatch(1, 1, 1), x -> x.dropBatch(1), x -> x.bake(2),
-            x -> x.rest(1), x -> x.execute(), x -> x.setDeviation(0, 0, 4), x -> x.shift(0, 0), x -> x.setTolerance(12)};
+            x -> x.rest(1), x -> x.execute(), x -> x.setDeviation(0, 0, 1), x -> x.shift(0, 0), x -> x.setTolerance(10)};
+        // The last three leave every value as it was, and are modifications all the same.
         for (int i = 0; i < modifications.length; i++) {
             NeedleBakery x = lived();
             x.restore();
@@ -170,6 +172,49 @@ final class UndoBoundaries extends Scenes {
         s.due("no needle of it is discarded", false, () -> x.isDiscarded(3));
     }
 
+    private static NeedleBakery fullOfBoth() {
+        NeedleBakery x = withNeedles(99, 98, 97, 96, 95, 94, 93, 92);
+        for (int batch = 0; batch < 7; batch++) {
+            x.addBatch(10 + batch, 1 + batch, 9 - batch);
+        }
+        table(x, 7, 1, 2, 3, 4, 5, 6, 7, 8);
+        return x;
+    }
+
+    /** Undo and restore bring back the last needle and the last batch of a full bakery as well. */
+    private static void whatUndoBringsBackWhenFull() {
+        Sentence s = Sentence.ofTerms("everything else is, including the id that is given next.");
+        String before = picture(fullOfBoth());
+        Sentence.Call[] changes = {y -> y.setDeviation(7, 7, -20), y -> y.shift(7, 12), y -> y.correct(7), y -> y.discard(7),
+            y -> y.dropBatch(6), y -> y.bake(0), y -> run(y, "drop 6;batch 1/999 9;set 7 0 20;discard 0")};
+        for (int i = 0; i < changes.length; i++) {
+            NeedleBakery x = fullOfBoth();
+            x.save();
+            changes[i].on(x);
+            x.undo();
+            s.due("the state after undo of the change " + i, before, () -> picture(x));
+            changes[i].on(x);
+            x.restore();
+            s.due("the state after restore from the change " + i, before, () -> picture(x));
+        }
+        NeedleBakery y = withNeedles(99, 98, 97, 96, 95, 94, 93);
+        y.addNeedle(92);
+        y.addBatch(1, 1, 1);
+        y.save();
+        y.undo();
+        y.undo();
+        y.addNeedle(5);
+        y.setDeviation(7, 7, 20);
+        y.discard(7);
+        y.addBatch(60, 999, 9);
+        y.restore();
+        s.due("the strength of before, under a number given anew", 92, () -> y.strengthOf(7));
+        s.due("the table of before", " 0 0 0 0 0 0 0 0", () -> tableOf(y, 7));
+        s.due("not discarded as before", false, () -> y.isDiscarded(7));
+        s.due("the batch of before, under an id given anew", 0, () -> y.bake(0));
+        s.due("its minutes", 1, () -> y.clock());
+    }
+
     /** One refusal of each kind; every sentence on a refusal has more of them in the other classes. */
     private static void exceptionsChangeNothing() {
         Sentence s = Sentence.ofTerms("A method that throws an exception changes nothing, except that execute empties the buffer.");
@@ -264,6 +309,11 @@ final class UndoBoundaries extends Scenes {
     private static void save() {
         Sentence clock = Sentence.of(49, "Returns the clock.");
         clock.due("at 0", 0, () -> new NeedleBakery().save());
+        Sentence restored = Sentence.of(50, "Returns the clock.");
+        NeedleBakery zero = new NeedleBakery();
+        zero.save();
+        zero.rest(1);
+        restored.due("at 0", 0, () -> zero.restore());
         Sentence replaces = Sentence.of(49, "Saves the state as a snapshot, which replaces an earlier one.");
         NeedleBakery x = new NeedleBakery();
         x.save();
