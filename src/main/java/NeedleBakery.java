@@ -19,7 +19,7 @@ public final class NeedleBakery {
     private static final int MOST_WEIGHT = 9;
     private static final int MOST_CHARACTERS = 60;
     private static final int MOST_UNDOS = 8;
-    private static final int NONE_YET = -1;
+    private static final int NONE = -1;
     private static final int BEYOND_ALL = 0x7fffffff;
 
     private static final Change[] CHANGES = Change.values();
@@ -33,8 +33,8 @@ public final class NeedleBakery {
     private final int[] reached = new int[COURSES];
     private final StringBuilder label = new StringBuilder();
     private final Program program = new Program();
-    private int errorPosition = NONE_YET;
-    private int failedCommand = NONE_YET;
+    private int errorPosition = NONE;
+    private int failedCommand = NONE;
 
     public NeedleBakery() {
     }
@@ -328,14 +328,14 @@ public final class NeedleBakery {
     }
 
     public int errorPosition() throws NoSuchElementException {
-        if (errorPosition == NONE_YET) {
+        if (errorPosition == NONE) {
             throw new NoSuchElementException("no program was malformed so far");
         }
         return errorPosition;
     }
 
     public int failedCommand() throws NoSuchElementException {
-        if (failedCommand == NONE_YET) {
+        if (failedCommand == NONE) {
             throw new NoSuchElementException("no command failed so far");
         }
         return failedCommand;
@@ -500,7 +500,7 @@ public final class NeedleBakery {
             }
         }
 
-        /** To be called only where whyNot answers NONE. */
+        /** To be called only where whyNot answers Refusal.NONE. */
         private int perform(Change change, int first, int second, int third) {
             switch (change) {
                 case NEEDLE:
@@ -683,22 +683,22 @@ public final class NeedleBakery {
             return Math.floorMod(course + interpolated(needle, course), COURSES);
         }
 
-        /** Returns NONE_YET where no course has the wanted true course. */
+        /** Returns NONE where no course has the wanted true course. */
         private int lowestCourse(int needle, int wanted) {
             for (int course = 0; course < COURSES; course++) {
                 if (corrected(needle, course) == wanted) {
                     return course;
                 }
             }
-            return NONE_YET;
+            return NONE;
         }
 
         /** No deviation is greater than MOST_DEVIATION, so the courses farther away cannot have the wanted one. */
         private int lowestNearbyCourse(int needle, int wanted) {
-            int lowest = NONE_YET;
+            int lowest = NONE;
             for (int away = -MOST_DEVIATION; away <= MOST_DEVIATION; away++) {
                 int course = Math.floorMod(wanted + away, COURSES);
-                boolean lower = lowest == NONE_YET || course < lowest;
+                boolean lower = lowest == NONE || course < lowest;
                 if (lower && corrected(needle, course) == wanted) {
                     lowest = course;
                 }
@@ -847,11 +847,11 @@ public final class NeedleBakery {
             return difference;
         }
 
-        /** Returns NONE_YET where the needle is in no pair. */
+        /** Returns NONE where the needle is in no pair. */
         private int lowestPartner(Needles needles, int needle) {
             int good = needles.goodSet();
             if (!holds(good, needle)) {
-                return NONE_YET;
+                return NONE;
             }
             int least = leastBySets(needles);
             for (int partner = 0; partner < needles.count; partner++) {
@@ -860,7 +860,7 @@ public final class NeedleBakery {
                     return partner;
                 }
             }
-            return NONE_YET;
+            return NONE;
         }
     }
 
@@ -890,14 +890,14 @@ public final class NeedleBakery {
             System.arraycopy(other.weights, 0, weights, 0, MOST_BATCHES);
         }
 
-        /** Returns NONE_YET where no batch with this id waits. */
+        /** Returns NONE where no batch with this id waits. */
         private int placeOf(int batch) {
             for (int place = 0; place < count; place++) {
                 if (ids[place] == batch) {
                     return place;
                 }
             }
-            return NONE_YET;
+            return NONE;
         }
 
         private int latenessFrom(int place, int start) {
@@ -979,7 +979,7 @@ public final class NeedleBakery {
             return sum;
         }
 
-        /** Returns NONE_YET where no batch waits. */
+        /** Returns NONE where no batch waits. */
         private int bestFirstPlace(Oven oven) {
             int least = leastBySets(oven);
             int all = (1 << oven.count) - 1;
@@ -988,7 +988,7 @@ public final class NeedleBakery {
                     return place;
                 }
             }
-            return NONE_YET;
+            return NONE;
         }
 
         private int leastByTrying(Oven oven) {
@@ -1046,21 +1046,21 @@ public final class NeedleBakery {
             length = 0;
         }
 
-        /** Returns NONE_YET for a malformed program, with the position at its error. */
+        /** Returns NONE for a malformed program, with the position at its error. */
         private int countCommands() {
             position = 0;
             for (int commands = 1; commands <= MOST_CHARACTERS; commands++) {
                 if (!readsCommand()) {
-                    return NONE_YET;
+                    return NONE;
                 }
                 if (position == length) {
                     return commands;
                 }
                 if (!takesSign(';')) {
-                    return NONE_YET;
+                    return NONE;
                 }
             }
-            return NONE_YET;
+            return NONE;
         }
 
         /** Where no command stands, the position is the furthest that a form could be followed to. */
